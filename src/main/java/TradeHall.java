@@ -126,12 +126,12 @@ public final class TradeHall {
     public int reduce(int account, int order, int less)
             throws IndexOutOfBoundsException, IllegalArgumentException, IllegalStateException {
         Order told = needOwnOrder(account, order);
-        needWithin(less, 1, Integer.MAX_VALUE);
+        needAtLeast(less, 1);
         needThere(told);
         if (less >= told.left) {
             throw new IllegalStateException("not more than that is left");
         }
-        vault.release(told, less);
+        vault.hold(told, -less);
         told.left -= less;
         told.shown = Math.min(told.shown, told.left);
         return told.left;
@@ -140,7 +140,7 @@ public final class TradeHall {
     public void until(int account, int order, int time)
             throws IndexOutOfBoundsException, IllegalArgumentException, IllegalStateException {
         Order told = needOwnOrder(account, order);
-        needWithin(time, 0, Integer.MAX_VALUE);
+        needAtLeast(time, 0);
         needThere(told);
         if (time != 0 && time <= this.time) {
             throw new IllegalStateException("that time is over");
@@ -154,8 +154,9 @@ public final class TradeHall {
         int ended = 0;
         // Ending one order changes nothing for another, so which goes first can't be seen.
         for (int i = 0; i < taken; i++) {
-            if (orders[i].isThere() && orders[i].end != 0 && orders[i].end <= time) {
-                drop(orders[i]);
+            Order ending = orders[i];
+            if (ending.isThere() && ending.end != 0 && ending.end <= time) {
+                drop(ending);
                 ended++;
             }
         }
@@ -328,6 +329,12 @@ public final class TradeHall {
         }
     }
 
+    private static void needAtLeast(int value, int least) {
+        if (value < least) {
+            throw new IllegalArgumentException("a number is not as said");
+        }
+    }
+
     private static void needWithin(int value, int least, int most) {
         if (value < least || value > most) {
             throw new IllegalArgumentException("a number is not as said");
@@ -395,8 +402,9 @@ public final class TradeHall {
             return null;
         }
         for (int i = 0; i < taken; i++) {
-            if (orders[i].state == WAITS && orders[i].symbol == symbol && orders[i].isReadyAt(last)) {
-                return orders[i];
+            Order stop = orders[i];
+            if (stop.state == WAITS && stop.symbol == symbol && stop.isReadyAt(last)) {
+                return stop;
             }
         }
         return null;
@@ -454,7 +462,7 @@ public final class TradeHall {
 
     private int drop(Order gone) {
         int left = gone.left;
-        vault.release(gone, left);
+        vault.hold(gone, -left);
         gone.left = 0;
         leave(gone, CANCELLED);
         return left;
@@ -476,6 +484,8 @@ public final class TradeHall {
         final int symbol;
         final int side;
         final int price;
+        /** Where the vault has what its account has of its symbol. */
+        final int slot;
         /** How much it shows at most at a time; of orders that are not LAYERED more than they can have. */
         final int layer;
         int trigger;
@@ -494,6 +504,7 @@ public final class TradeHall {
             this.symbol = symbol;
             this.side = side;
             this.price = price;
+            this.slot = Vault.slot(account, symbol);
             this.left = amount;
             this.layer = layer;
         }
@@ -682,34 +693,28 @@ public final class TradeHall {
             if (coming.side == BUYS) {
                 return (long) coming.price * coming.left <= freeMoney(coming.account);
             }
-            int slot = slot(coming.account, coming.symbol);
-            return coming.left <= stock[slot] - stockHeld[slot];
+            return coming.left <= stock[coming.slot] - stockHeld[coming.slot];
         }
 
-        void hold(Order owner, int amount) {
+        /** Holds so much more for an order, or less if that is below 0. */
+        void hold(Order owner, int more) {
             if (owner.side == BUYS) {
-                moneyHeld[owner.account] += (long) owner.price * amount;
+                moneyHeld[owner.account] += (long) owner.price * more;
             } else {
-                stockHeld[slot(owner.account, owner.symbol)] += amount;
+                stockHeld[owner.slot] += more;
             }
         }
 
-        void release(Order owner, int amount) {
-            hold(owner, -amount);
-        }
-
         void settle(Order buyer, Order seller, int price, int amount) {
-            release(buyer, amount);
-            release(seller, amount);
+            hold(buyer, -amount);
+            hold(seller, -amount);
             long paid = (long) price * amount;
             money[buyer.account] -= paid;
             money[seller.account] += paid;
-            int to = slot(buyer.account, buyer.symbol);
-            int from = slot(seller.account, seller.symbol);
-            stock[to] += amount;
-            stock[from] -= amount;
-            bought[to] += amount;
-            sold[from] += amount;
+            stock[buyer.slot] += amount;
+            stock[seller.slot] -= amount;
+            bought[buyer.slot] += amount;
+            sold[seller.slot] += amount;
         }
 
         /** The account that comes next behind this one (NONE: the first of all), or NONE. */
@@ -761,14 +766,11 @@ public final class TradeHall {
                 rows[row + 3] = amount;
             }
             length++;
-            mark(coming.symbol, resting.price, amount);
-        }
-
-        private void mark(int symbol, int price, int amount) {
-            boolean isFirst = last[symbol] == 0;
-            last[symbol] = price;
+            int symbol = coming.symbol;
+            int price = resting.price;
+            least[symbol] = last[symbol] == 0 ? price : Math.min(least[symbol], price);
             greatest[symbol] = Math.max(greatest[symbol], price);
-            least[symbol] = isFirst ? price : Math.min(least[symbol], price);
+            last[symbol] = price;
             volume[symbol] += amount;
         }
     }
