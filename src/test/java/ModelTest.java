@@ -57,7 +57,7 @@ public final class ModelTest {
                 a[random.nextInt(length(method))] = ODD[random.nextInt(ODD.length)];
             }
             String due = answer(() -> onPlain(method, a));
-            String got = answer(() -> onHall(method, a));
+            String got = answer(() -> new Call(NAMES[method], a).answer(hall));
             String call = NAMES[method] + Arrays.toString(Arrays.copyOf(a, length(method)));
             Check.same("run " + run + ", call " + i + ": " + call, due, got);
             if (!due.equals(got)) {
@@ -164,32 +164,6 @@ public final class ModelTest {
             return String.valueOf(call.answer());
         } catch (RuntimeException e) {
             return e.getClass().getName();
-        }
-    }
-
-    private long onHall(int method, int[] a) {
-        switch (method) {
-            case 0: return hall.deposit(a[0], a[1]);
-            case 1: return hall.withdraw(a[0], a[1]);
-            case 2: return hall.grant(a[0], a[1], a[2]);
-            case 3: return hall.order(a[0], a[1], a[2], a[3], a[4], a[5], a[6]);
-            case 4: return hall.cancel(a[0], a[1]);
-            case 5: return hall.reduce(a[0], a[1], a[2]);
-            case 6:
-                hall.until(a[0], a[1], a[2]);
-                return 0;
-            case 7: return hall.pass(a[0]);
-            case 8: return hall.best(a[0], a[1]);
-            case 9: return hall.depth(a[0], a[1], a[2]);
-            case 10: return hall.level(a[0], a[1], a[2], a[3]);
-            case 11: return hall.about(a[0], a[1]);
-            case 12: return hall.ahead(a[0]);
-            case 13: return hall.cash(a[0], a[1]);
-            case 14: return hall.shares(a[0], a[1], a[2]);
-            case 15: return hall.count(a[0]);
-            case 16: return hall.trade(a[0], a[1]);
-            case 17: return hall.symbol(a[0], a[1]);
-            default: return hall.busiest(a[0], a[1]);
         }
     }
 
