@@ -327,6 +327,18 @@ public final class TradingEdgesTest {
             count 0 = 2
             about 2 1 = 4
             """);
+        holds("WHOLE: all that may be traded at any of the prices, and one more", """
+            order 2 0 sells PLAIN 10 4 0 = 0
+            order 3 0 sells PLAIN 11 4 0 = 1
+            order 4 0 sells PLAIN 12 4 0 = 2
+            order 1 0 buys WHOLE 12 13 0 = 3
+            about 3 3 = 3
+            count 0 = 0
+            order 1 0 buys WHOLE 12 12 0 = 4
+            about 4 3 = 2
+            count 0 = 3
+            best 0 sells = none
+            """);
         holds("WHOLE: what a LAYERED one does not show is traded, too", """
             order 2 0 sells LAYERED 10 10 3 = 0
             order 1 0 buys WHOLE 10 11 0 = 1
@@ -352,6 +364,18 @@ public final class TradingEdgesTest {
             about 4 3 = 2
             order 1 0 buys WHOLE 10 1 0 = 5
             about 5 3 = 3
+            """);
+        holds("WHOLE: one of its own account is in the way behind two others", """
+            order 2 0 buys PLAIN 10 3 0 = 0
+            order 3 0 buys PLAIN 10 4 0 = 1
+            order 1 0 buys PLAIN 10 5 0 = 2
+            order 1 0 sells WHOLE 10 8 0 = 3
+            about 3 3 = 3
+            count 0 = 0
+            order 1 0 sells WHOLE 10 7 0 = 4
+            about 4 3 = 2
+            count 0 = 2
+            about 2 1 = 5
             """);
         holds("WHOLE: one of its own account is too dear to be in the way", """
             order 2 0 sells PLAIN 10 4 0 = 0
