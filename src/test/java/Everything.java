@@ -2,12 +2,12 @@ import java.util.ArrayList;
 import java.util.List;
 
 /**
- * All that can be asked of a hall behind some calls. An object answers no more than 512 calls, so the questions
- * go to as many halls as it takes, each made by the same calls.
+ * What a hall tells behind some calls: every count, symbol, book, order and trade, the first eight of the busiest, and
+ * the accounts that most tests use. An object answers no more than 512 calls, so the questions go to as many halls as
+ * it takes, each made by the same calls.
  */
 final class Everything {
     static final int MOST_CALLS = 512;
-    /** Those that the tests use. */
     private static final int[] ACCOUNTS = {0, 1, 2, 3, 4, 5, 500, 510, 511};
 
     /** Somebody buys and sells all that there is at any price, which wakes the stops, and then much time goes. */
@@ -92,6 +92,7 @@ final class Everything {
         questions.add(Call.of("depth " + book + " 0"));
         for (int i = 0; i < hall.depth(symbol, side, 0); i++) {
             ask(questions, "level " + book + " " + i, 3);
+            questions.add(Call.of("depth " + book + " " + hall.level(symbol, side, i, 0)));
         }
     }
 
