@@ -155,6 +155,21 @@ public final class BookEdgesTest {
             cancel 1 3 = 8
             depth 1 buys 0 = 0
             """);
+        Sentence.holds("11: how much is shown, of a LAYERED one that shows the next only when that is gone", """
+            deposit 1 1000
+            grant 2 0 10
+            order 1 0 buys LAYERED 10 9 4 = 0
+            depth 0 buys 10 = 4
+            order 2 0 sells NOW 10 1 0 = 1
+            depth 0 buys 10 = 3
+            order 2 0 sells NOW 10 2 0 = 2
+            depth 0 buys 10 = 1
+            order 2 0 sells NOW 10 1 0 = 3
+            depth 0 buys 10 = 4
+            order 2 0 sells NOW 10 4 0 = 4
+            depth 0 buys 10 = 1
+            level 0 buys 0 2 = 1
+            """);
         Sentence.holds("11: as much as can be shown at a price", """
             deposit 1 1000000
             100 x order 1 0 buys PLAIN 1 10000 0

@@ -484,6 +484,24 @@ public final class KeepingEdgesTest {
             pass 3 = 1
             about 0 3 = 3
             """);
+        holds("one that was reduced or traded in part ends at its time, too", """
+            order 1 0 buys PLAIN 10 5 0 = 0
+            order 1 0 buys LAYERED 9 5 2 = 1
+            order 1 0 buys STOP 9 5 20 = 2
+            until 1 0 3
+            until 1 1 3
+            until 1 2 3
+            reduce 1 0 1 = 4
+            reduce 1 1 4 = 1
+            reduce 1 2 2 = 3
+            order 2 0 sells NOW 10 1 0 = 3
+            about 0 4 = 3
+            about 1 4 = 3
+            about 2 4 = 3
+            pass 2 = 0
+            pass 1 = 3
+            cash 1 1 = 0
+            """);
         holds("one in the middle of the book ends", """
             order 1 0 sells PLAIN 10 1 0 = 0
             order 1 0 sells PLAIN 10 2 0 = 1

@@ -248,7 +248,27 @@ public final class TradingEdgesTest {
             about 0 1 = 5
             cash 1 1 = 0
             count 0 = 1
+            count 2 = 1
             """);
+        for (String kind : new String[] {"PLAIN", "QUIET", "LAYERED"}) {
+            holds("It is STOPPED by one of its own account, whatever kind that is: " + kind, """
+                order 2 0 sells PLAIN 10 1 0 = 0
+                order 1 0 sells KIND 10 9 4 = 1
+                order 1 0 buys WHOLE 10 2 0 = 2
+                about 2 3 = 3
+                about 2 5 = 0
+                order 1 0 buys PLAIN 10 2 0 = 3
+                about 3 3 = 3
+                about 3 5 = 1
+                order 1 0 buys LAYERED 10 2 1 = 4
+                about 4 3 = 3
+                about 4 5 = 0
+                about 1 1 = 9
+                about 1 5 = 0
+                count 0 = 1
+                count 2 = 1
+                """.replace("KIND", kind));
+        }
     }
 
     private static void whatIsLeft() {
